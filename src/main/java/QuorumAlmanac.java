@@ -546,19 +546,14 @@ public final class QuorumAlmanac {
         }
         deliveredCount++;
         int before = nextMessage;
-        switch (m.kind) {
-            case WISH:
-                takeWish(n, m);
-                break;
-            case WISH_ANSWER:
-                takeVote(n, m);
-                break;
-            case ROUND_ANSWER:
-                takeAnswer(n, m);
-                break;
-            default:
-                takeRound(n, m);
-                break;
+        if (m.kind == WISH) {
+            takeWish(n, m);
+        } else if (m.kind == WISH_ANSWER) {
+            takeVote(n, m);
+        } else if (m.kind == ROUND_ANSWER) {
+            takeAnswer(n, m);
+        } else {
+            takeRound(n, m);
         }
         return nextMessage - before;
     }
@@ -570,9 +565,8 @@ public final class QuorumAlmanac {
 
     public int copy(int message) throws NoSuchElementException {
         Message m = queue[placeOf(message)];
-        Message twin = new Message(nextMessage, m.kind, m.from, m.to, m.term);
+        Message twin = post(nodes[m.from], m.to, m.kind, m.term);
         twin.takeContent(m);
-        enqueue(twin);
         return twin.number;
     }
 
@@ -793,19 +787,15 @@ public final class QuorumAlmanac {
         }
     }
 
-    private void enqueue(Message m) {
+    /** Puts a message behind all that wait; the caller fills in what it tells. */
+    private Message post(Node from, int to, char kind, int term) {
         if (queued >= QUEUE_LIMIT) {
             removeAt(0);
         }
+        Message m = new Message(nextMessage, kind, from.number, to, term);
         queue[queued] = m;
         queued++;
         nextMessage++;
-    }
-
-    /** Sends a message of the node's term; the caller fills in what it tells. */
-    private Message post(Node from, int to, char kind) {
-        Message m = new Message(nextMessage, kind, from.number, to, from.term);
-        enqueue(m);
         return m;
     }
 
@@ -849,7 +839,7 @@ public final class QuorumAlmanac {
         int set = knownMembers(n);
         for (int i = 0; i < NODES; i++) {
             if (i != n.number && isIn(i, set)) {
-                Message wish = post(n, i, WISH);
+                Message wish = post(n, i, WISH, n.term);
                 wish.index = n.log.end;
                 wish.entryTerm = n.lastTerm();
             }
@@ -896,7 +886,7 @@ public final class QuorumAlmanac {
             n.vote = m.from;
             n.heard = n.clock;
         }
-        post(n, m.from, WISH_ANSWER).isVote = isVote;
+        post(n, m.from, WISH_ANSWER, n.term).isVote = isVote;
     }
 
     private static boolean isBehind(Message wish, Node n) {
@@ -940,12 +930,12 @@ public final class QuorumAlmanac {
     private void sendRound(Node n, int to) {
         int next = n.lead.next[to];
         if (next <= n.log.base.index) {
-            Message m = post(n, to, SNAPSHOT);
+            Message m = post(n, to, SNAPSHOT, n.term);
             m.round = n.lead.round;
             m.snapshot = n.log.base;
             return;
         }
-        Message m = post(n, to, APPEND);
+        Message m = post(n, to, APPEND, n.term);
         m.round = n.lead.round;
         m.index = next - 1;
         m.entryTerm = n.log.termAt(next - 1);
@@ -980,7 +970,7 @@ public final class QuorumAlmanac {
     private void takeRound(Node n, Message m) {
         if (m.term < n.term) {
             refusedCount++;
-            post(n, m.from, ROUND_ANSWER).answer = TELLS_TERM;
+            post(n, m.from, ROUND_ANSWER, n.term).answer = TELLS_TERM;
             return;
         }
         hearLeader(n, m);
@@ -1057,7 +1047,7 @@ public final class QuorumAlmanac {
     }
 
     private void answerRound(Node n, char answer, int index) {
-        Message m = post(n, n.leader, ROUND_ANSWER);
+        Message m = post(n, n.leader, ROUND_ANSWER, n.term);
         m.round = n.lastRound;
         m.answer = answer;
         m.index = index;
@@ -1090,15 +1080,11 @@ public final class QuorumAlmanac {
             n.committed++;
             Entry entry = n.log.at(n.committed);
             n.store.applyEntry(entry);
-            tell(n.committed, entry);
-        }
-    }
-
-    private void tell(int index, Entry entry) {
-        if (index == toldCount + 1 && index < LOG_ROOM) {
-            told[index] = entry;
-            toldCount = index;
-            toldStore.applyEntry(entry);
+            if (n.committed == toldCount + 1 && n.committed < LOG_ROOM) {
+                toldCount++;
+                told[toldCount] = entry;
+                toldStore.applyEntry(entry);
+            }
         }
     }
 
