@@ -168,6 +168,7 @@ public final class QuorumAlmanac {
 
     /** Entries by their index behind a snapshot; the snapshot of index 0 tells the state at first. */
     private static final class Log {
+        /** Those from behind the snapshot up to the end count; others may stand where entries once were. */
         private final Entry[] entries = new Entry[LOG_ROOM];
         private Snapshot base;
         private int end = 0;
@@ -209,11 +210,7 @@ public final class QuorumAlmanac {
         }
 
         private void cutFrom(int index) {
-            int from = Math.max(index, base.index + 1);
-            for (int i = from; i <= end && i < LOG_ROOM; i++) {
-                entries[i] = null;
-            }
-            end = Math.min(end, from - 1);
+            end = Math.min(end, Math.max(index - 1, base.index));
             durable = Math.min(durable, end);
             settingIndex = latestSetting(end);
             setting = settingAt(settingIndex);
@@ -237,16 +234,12 @@ public final class QuorumAlmanac {
 
         /** The snapshot takes the place of the entries up to its index; those behind stay. */
         private void cutShort(Snapshot snapshot) {
-            for (int i = base.index + 1; i <= snapshot.index && i < LOG_ROOM; i++) {
-                entries[i] = null;
-            }
             base = snapshot;
             durable = Math.max(durable, snapshot.index);
         }
 
         /** The snapshot becomes the whole log. */
         private void replaceBy(Snapshot snapshot) {
-            cutFrom(base.index + 1);
             base = snapshot;
             end = snapshot.index;
             durable = snapshot.index;
@@ -288,10 +281,11 @@ public final class QuorumAlmanac {
         private int heard = 0;
         /** The clock at its last append, snapshot or start; while it is recent, wishes are not heeded. */
         private int contact = NONE;
-        /** The leader of its term, once one was heard. */
+        /** The leader of its term, once one was heard; not itself. */
         private int leader = NONE;
         /** The index up to which it knows that it agrees with the leader of its term. */
         private int agreed = 0;
+        /** The last round that it got from that leader. */
         private int lastRound = 0;
         private int committed = 0;
 
@@ -303,7 +297,6 @@ public final class QuorumAlmanac {
         private void forgetLeader() {
             leader = NONE;
             agreed = 0;
-            lastRound = 0;
         }
 
         private int lastTerm() {
@@ -431,8 +424,6 @@ public final class QuorumAlmanac {
         becomeFollower(n);
         n.role = DOWN;
         n.forgetLeader();
-        n.votes = 0;
-        n.contact = NONE;
         n.log.cutFrom(n.log.durable + 1);
         n.committed = n.log.base.index;
         n.store.takeFrom(n.log.base.store);
@@ -1095,7 +1086,6 @@ public final class QuorumAlmanac {
             finishChange(n);
             if (hasAppliedLeaving(n, before)) {
                 becomeFollower(n);
-                n.forgetLeader();
             }
         }
         settleReads(n);

@@ -21,6 +21,10 @@ final class MessagesTest {
         appendCutsOff();
         appendTellsWhatIsCommitted();
         agreementIsKept();
+        agreementOfThisTerm();
+        agreementOfThisLeader();
+        syncedAndAgreed();
+        copiesAreWhole();
         snapshotIsSent();
         snapshotIsNotNeeded();
         snapshotInPlaceOfAll();
@@ -545,6 +549,171 @@ final class MessagesTest {
         x.sync(1);
         x.deliver(x.earliest());
         Check.due("an earlier append takes back nothing", 3, () -> x.committed(0));
+    }
+
+    /** Of five, node 0 leads term 1; the 'o' is synced by all; nodes 1 to 4 have the clock 9. */
+    private static QuorumAlmanac fiveSettled() {
+        QuorumAlmanac x = new QuorumAlmanac(31);
+        Play.tickTo(x, 9);
+        x.tick(0);
+        Play.deliverAll(x);
+        Play.syncAll(x);
+        Play.deliverAll(x);
+        return x;
+    }
+
+    private static void agreementOfThisTerm() {
+        QuorumAlmanac x = fiveSettled();
+        x.write(0, 1, 1);
+        x.write(0, 1, 2);
+        x.deliver(lastOf(x, 'a', 2));
+        x.sync(2);
+        Check.due("node 2 agrees with node 0 up to 3", "3 3", () -> x.last(2) + " " + x.synced(2));
+        Play.loseAll(x);
+        x.crash(0);
+        Play.tickTo(x, 20);
+        x.deliver(wishOf(x, 1, 3));
+        x.deliver(lastOf(x, 'y', 31));
+        voteFor(x, 1, 4);
+        x.write(1, 2, 2);
+        x.deliver(lastOf(x, 'a', 13));
+        x.deliver(lastOf(x, 'a', 14));
+        Check.due("nodes 3 and 4 have entries of term 2", "3 2 3", () -> x.last(3) + " " + x.entryTerm(4, 3) + " "
+            + x.last(4));
+        Play.loseAll(x);
+        x.crash(1);
+        x.start(0);
+        x.start(1);
+        Play.tickTo(x, 30);
+        Play.loseAll(x);
+        for (int clock = 31; clock <= 33; clock++) {
+            Play.tickTo(x, clock);
+        }
+        Check.due("node 3 stands", 'c', () -> x.role(3));
+        x.deliver(wishOf(x, 3, 4));
+        x.deliver(lastOf(x, 'y', 43));
+        voteFor(x, 3, 0);
+        x.deliver(lastOf(x, 'a', 32));
+        Check.due("node 2 refuses", "3 1", () -> x.last(2) + " " + x.entryTerm(2, 3));
+        x.deliver(lastOf(x, 'k', 23));
+        x.sync(2);
+        x.deliver(lastOf(x, 'k', 23));
+        x.write(3, 1, 3);
+        x.deliver(lastOf(x, 'a', 32));
+        x.deliver(lastOf(x, 'k', 23));
+        x.write(3, 1, 4);
+        x.deliver(lastOf(x, 'a', 32));
+        Check.due("it agrees to nothing by what another term told it", "5 2",
+            () -> x.last(2) + " " + x.entryTerm(2, 3));
+    }
+
+    private static void agreementOfThisLeader() {
+        QuorumAlmanac x = fiveSettled();
+        for (int i = 0; i < 4; i++) {
+            x.write(0, 1, i);
+        }
+        x.deliver(lastOf(x, 'a', 1));
+        x.sync(1);
+        x.deliver(lastOf(x, 'k', 10));
+        Check.due("node 1 agrees up to 5, node 0 has not synced", "5 1", () -> x.synced(1) + " " + x.synced(0));
+        Play.loseAll(x);
+        x.crash(0);
+        x.start(0);
+        Play.tickTo(x, 19);
+        x.tick(0);
+        x.deliver(wishOf(x, 0, 2));
+        x.deliver(lastOf(x, 'y', 20));
+        voteFor(x, 0, 3);
+        Check.due("node 0 leads again, with another entry 2", "2 2", () -> x.last(0) + " " + x.entryTerm(0, 2));
+        x.sync(0);
+        x.deliver(lastOf(x, 'a', 2));
+        x.sync(2);
+        x.deliver(lastOf(x, 'k', 20));
+        Check.due("to which two of five agree", 0, () -> x.committed(0));
+        x.deliver(lastOf(x, 'a', 3));
+        x.sync(3);
+        x.deliver(lastOf(x, 'k', 30));
+        Check.due("and now three", 2, () -> x.committed(0));
+    }
+
+    private static void syncedAndAgreed() {
+        // What a follower has synced of its own is not what it agrees to.
+        QuorumAlmanac x = Play.settled();
+        x.write(0, 1, 1);
+        x.write(0, 1, 2);
+        x.deliver(lastOf(x, 'a', 2));
+        x.sync(2);
+        x.crash(0);
+        x.start(0);
+        Check.due("node 0 has lost entries that node 2 has", "1 3", () -> x.last(0) + " " + x.last(2));
+        Play.loseAll(x);
+        Play.tickTo(x, 19);
+        x.tick(0);
+        voteFor(x, 0, 1);
+        x.sync(0);
+        x.deliver(lastOf(x, 'a', 1));
+        x.deliver(lastOf(x, 'k', 10));
+        x.sync(1);
+        x.deliver(lastOf(x, 'k', 10));
+        Check.due("by node 1", 2, () -> x.committed(0));
+        Check.due("an append of one entry cuts off two", 2, () -> {
+            x.deliver(lastOf(x, 'a', 2));
+            return x.last(2);
+        });
+        Check.due("none of which is synced any more", 1, () -> x.synced(2));
+    }
+
+    private static void copiesAreWhole() {
+        // A copied append tells what is committed, and fits only where the append does.
+        QuorumAlmanac x = Play.settled();
+        x.write(0, 1, 1);
+        int append = x.copy(lastOf(x, 'a', 1));
+        x.lose(x.earliest());
+        x.deliver(append);
+        Check.due("its entry and what is committed", "2 1", () -> x.last(1) + " " + x.committed(1));
+        // A copied answer tells the index and the round.
+        x.sync(1);
+        int answer = x.copy(lastOf(x, 'k', 10));
+        Play.loseAllBut(x, answer);
+        x.sync(0);
+        x.deliver(answer);
+        Check.due("its index", 2, () -> x.committed(0));
+        x.askRead(0, 1);
+        x.deliver(lastOf(x, 'a', 1));
+        int round = x.copy(lastOf(x, 'k', 10));
+        Play.loseAllBut(x, round);
+        x.deliver(round);
+        Check.due("its round", 'r', () -> x.readState(0));
+        // A copied wish is judged as the wish is, and its copied answer counts.
+        QuorumAlmanac y = Play.settled();
+        y.crash(0);
+        Play.tickTo(y, 20);
+        int wish = y.copy(wishOf(y, 1, 2));
+        y.lose(wishOf(y, 1, 2) - 1);
+        y.deliver(wish);
+        Check.due("a vote", 1, () -> y.vote(2));
+        int vote = y.copy(lastOf(y, 'y', 21));
+        Play.loseAllBut(y, vote);
+        y.deliver(vote);
+        Check.due("counts", 'l', () -> y.role(1));
+        // So do a copied refusal and a copied answer of a term.
+        QuorumAlmanac z = Play.settled();
+        for (int i = 0; i < 3; i++) {
+            z.write(0, 1, i);
+        }
+        z.deliver(lastOf(z, 'a', 1));
+        z.sync(1);
+        Play.loseAll(z);
+        z.crash(0);
+        Play.tickTo(z, 20);
+        voteFor(z, 1, 2);
+        z.deliver(lastOf(z, 'a', 12));
+        int refusal = z.copy(lastOf(z, 'k', 21));
+        Play.loseAllBut(z, refusal);
+        z.deliver(refusal);
+        z.write(1, 1, 9);
+        z.deliver(lastOf(z, 'a', 12));
+        Check.due("from behind the hint on", 5, () -> z.last(2));
     }
 
     // Snapshots

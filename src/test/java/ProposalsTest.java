@@ -15,6 +15,7 @@ final class ProposalsTest {
         electionUnderTwoSets();
         newSetByTheNextLeader();
         newSetOfASnapshot();
+        newSetAsMoreIsCommitted();
         Check.end();
     }
 
@@ -325,5 +326,41 @@ final class ProposalsTest {
         x.sync(0);
         Check.due("a change behind that", 5, () -> x.change(0, 31));
         Check.due("both sets", 31, () -> x.members(0));
+    }
+
+    private static void newSetAsMoreIsCommitted() {
+        QuorumAlmanac x = Play.settled();
+        x.change(0, 7);
+        x.deliver(9);
+        x.sync(1);
+        for (int i = 0; i < 4; i++) {
+            x.write(0, 1, i);
+        }
+        x.sync(0);
+        x.deliver(12);
+        Check.due("the 'j' is committed by node 1", "2 7 n",
+            () -> x.committed(0) + " " + x.last(0) + " " + x.entryKind(0, 7));
+        x.askRead(0, 1);
+        x.deliver(22);
+        Check.due("node 2 knows of it, but not of the 'n'", "2 5", () -> x.committed(2) + " " + x.last(2));
+        Play.loseAll(x);
+        x.crash(0);
+        Play.tickTo(x, 19);
+        x.tick(2);
+        x.tick(2);
+        Check.due("node 2 stands", "c 21", () -> x.role(2) + " " + x.between(x.earliest() + 1));
+        x.deliver(x.earliest() + 1);
+        x.deliver(x.earliest() + 2);
+        Check.due("node 2 leads", "l 6", () -> x.role(2) + " " + x.last(2));
+        x.sync(2);
+        Check.due("nothing more is committed: no 'n'", "2 6", () -> x.committed(2) + " " + x.last(2));
+        Check.unsupported("there are two sets", () -> x.change(2, 7));
+        x.lose(x.earliest());
+        Play.deliverAll(x);
+        x.write(2, 1, 1);
+        Play.deliverAll(x);
+        x.sync(1);
+        Play.deliverAll(x);
+        Check.due("more is committed", "6 8 n", () -> x.committed(2) + " " + x.last(2) + " " + x.entryKind(2, 8));
     }
 }

@@ -14,6 +14,7 @@ final class ReadsTest {
         askReadOfOneMember();
         askReadAtMostTwelve();
         readsAreLost();
+        rowsOfANewLeader();
         noSuchRead();
         stale();
         ranges();
@@ -280,6 +281,29 @@ final class ReadsTest {
         Check.noElement("and has no value", () -> x.readValue(0));
     }
 
+    /** What a leader knew of its rounds ahead of its crash is no help as it leads again. */
+    private static void rowsOfANewLeader() {
+        QuorumAlmanac x = Play.settled();
+        for (int round = 0; round < 5; round++) {
+            x.askRead(0, 1);
+            Play.deliverAll(x);
+        }
+        x.crash(0);
+        x.start(0);
+        Play.tickTo(x, 19);
+        x.tick(0);
+        x.deliver(x.earliest());
+        x.deliver(x.earliest() + 1);
+        Check.due("it leads again", "l 2", () -> x.role(0) + " " + x.term(0));
+        x.sync(0);
+        x.deliver(x.earliest() + 2);
+        x.sync(1);
+        x.deliver(x.earliest() + 5);
+        Check.due("its 'o' is committed", 2, () -> x.committed(0));
+        x.askRead(0, 1);
+        Check.due("a read waits for a round of this term", 'w', () -> x.readState(5));
+    }
+
     private static int wishOf(QuorumAlmanac x, int between) {
         for (int message = x.earliest(); message < 300; message++) {
             int number = message;
@@ -368,6 +392,14 @@ final class ReadsTest {
         x.reshape(0, 8, false);
         x.sync(0);
         Check.due("the sum of both", "3 3", () -> x.load(0, 7) + " " + x.load(0, 12));
+        x.reshape(0, 8, true);
+        x.sync(0);
+        Check.due("split where it was before", "0 0", () -> x.load(0, 7) + " " + x.load(0, 8));
+        x.write(0, 1, 1);
+        x.write(0, 2, 2);
+        x.write(0, 9, 1);
+        x.reshape(0, 8, false);
+        x.sync(0);
         x.compact(0);
         x.crash(0);
         x.start(0);
