@@ -241,5 +241,26 @@ final class HistoryTest {
         y.crash(1);
         y.crash(2);
         Check.due("of a value that the history had ahead of it", false, () -> y.isSound());
+        QuorumAlmanac z = twoEntriesAreGone();
+        Play.tickTo(z, 20);
+        z.deliver(lastWish(z, 12));
+        Play.deliverAll(z);
+        Play.syncAll(z);
+        Play.deliverAll(z);
+        z.write(1, 2, 13);
+        z.write(1, 2, 13);
+        Play.deliverAll(z);
+        z.sync(1);
+        z.sync(2);
+        int answer = z.earliest();
+        int readOfZ = z.askRead(1, 1);
+        z.deliver(answer);
+        Check.due("a write of this value to another key, while the read waits", "6 w",
+            () -> z.history() + " " + z.readState(readOfZ));
+        Play.deliverAll(z);
+        Check.due("a read by round", 13, () -> z.readValue(readOfZ));
+        z.crash(1);
+        z.crash(2);
+        Check.due("is no help", false, () -> z.isSound());
     }
 }

@@ -28,6 +28,7 @@ final class MessagesTest {
         snapshotIsSent();
         snapshotIsNotNeeded();
         snapshotInPlaceOfAll();
+        snapshotOfOtherMembers();
         commitOfOwnTermAlone();
         Check.end();
     }
@@ -775,6 +776,34 @@ final class MessagesTest {
         Check.due("the log is that of the snapshot", "3 3 3",
             () -> x.last(2) + " " + x.snapshot(2) + " " + x.committed(2));
         Check.noElement("no entry is left", () -> x.entryKind(2, 3));
+    }
+
+    private static void snapshotOfOtherMembers() {
+        QuorumAlmanac x = Play.settled();
+        x.change(0, 7 + 8);
+        x.deliver(lastOf(x, 'a', 1));
+        x.sync(1);
+        x.sync(0);
+        x.start(3);
+        x.deliver(lastOf(x, 'a', 3));
+        x.sync(3);
+        x.deliver(lastOf(x, 'k', 10));
+        x.deliver(lastOf(x, 'k', 30));
+        Check.due("the 'j' is committed", "2 3", () -> x.committed(0) + " " + x.last(0));
+        x.compact(0);
+        Play.loseAll(x);
+        x.write(0, 1, 1);
+        Check.due("a snapshot", "s 7", () -> x.kindOf(x.earliest() + 1) + " " + x.members(2));
+        x.deliver(x.earliest() + 1);
+        Check.due("its members", "2 15", () -> x.snapshot(2) + " " + x.members(2));
+        x.deliver(lastOf(x, 'k', 20));
+        x.write(0, 1, 2);
+        x.deliver(lastOf(x, 'a', 2));
+        Check.due("those of the 'n' behind it", "5 15", () -> x.last(2) + " " + x.members(2));
+        x.crash(2);
+        x.start(2);
+        Check.due("and of the snapshot again", "2 15", () -> x.last(2) + " " + x.members(2));
+        Check.due("all is sound", true, () -> x.isSound());
     }
 
     private static void commitOfOwnTermAlone() {

@@ -66,7 +66,7 @@ final class ModelTest {
     }
 
     public static void main(String[] args) {
-        int runs = args.length > 0 ? Integer.parseInt(args[0]) : 120;
+        int runs = args.length > 0 ? Integer.parseInt(args[0]) : 300;
         boolean looksAtAll = args.length > 1;
         long[] answered = new long[NAMES.length];
         for (int way = 0; way < WAYS.length; way++) {

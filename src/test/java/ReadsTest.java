@@ -288,20 +288,25 @@ final class ReadsTest {
             x.askRead(0, 1);
             Play.deliverAll(x);
         }
+        x.sync(1);
+        int early = x.earliest();
         x.crash(0);
         x.start(0);
         Play.tickTo(x, 19);
         x.tick(0);
-        x.deliver(x.earliest());
-        x.deliver(x.earliest() + 1);
+        x.deliver(early + 1);
+        x.deliver(early + 3);
         Check.due("it leads again", "l 2", () -> x.role(0) + " " + x.term(0));
         x.sync(0);
-        x.deliver(x.earliest() + 2);
+        x.deliver(early + 4);
         x.sync(1);
-        x.deliver(x.earliest() + 5);
+        x.deliver(early + 7);
         Check.due("its 'o' is committed", 2, () -> x.committed(0));
         x.askRead(0, 1);
         Check.due("a read waits for a round of this term", 'w', () -> x.readState(5));
+        Check.due("an answer of node 1 of the term ahead", "k 10", () -> x.kindOf(early) + " " + x.between(early));
+        x.deliver(early);
+        Check.due("is no help", 'w', () -> x.readState(5));
     }
 
     private static int wishOf(QuorumAlmanac x, int between) {
