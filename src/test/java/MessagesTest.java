@@ -28,6 +28,7 @@ final class MessagesTest {
         snapshotIsSent();
         snapshotIsNotNeeded();
         snapshotInPlaceOfAll();
+        snapshotInPlaceOfAChange();
         snapshotOfOtherMembers();
         commitOfOwnTermAlone();
         Check.end();
@@ -776,6 +777,36 @@ final class MessagesTest {
         Check.due("the log is that of the snapshot", "3 3 3",
             () -> x.last(2) + " " + x.snapshot(2) + " " + x.committed(2));
         Check.noElement("no entry is left", () -> x.entryKind(2, 3));
+    }
+
+    private static void snapshotInPlaceOfAChange() {
+        QuorumAlmanac x = Play.settled();
+        x.write(0, 1, 2);
+        x.write(0, 1, 3);
+        int toTwo = lastOf(x, 'a', 2);
+        x.write(0, 1, 4);
+        x.change(0, 7);
+        int toOne = lastOf(x, 'a', 1);
+        x.sync(0);
+        x.deliver(toTwo);
+        x.sync(2);
+        x.deliver(lastOf(x, 'k', 20));
+        x.compact(0);
+        x.askRead(0, 1);
+        int snapshot = lastOf(x, 's', 1);
+        x.deliver(toOne);
+        Check.due("a 'j' at the index 5", "5 j", () -> x.last(1) + " " + x.entryKind(1, 5));
+        x.deliver(snapshot);
+        Check.due("is gone", 3, () -> x.last(1));
+        Play.loseAll(x);
+        x.crash(0);
+        Play.tickTo(x, 20);
+        voteFor(x, 1, 2);
+        Play.deliverAll(x);
+        Play.syncAll(x);
+        Play.deliverAll(x);
+        Check.due("node 1 knows its 'o' to be committed", 4, () -> x.committed(1));
+        Check.due("and of no change", 5, () -> x.change(1, 7));
     }
 
     private static void snapshotOfOtherMembers() {
