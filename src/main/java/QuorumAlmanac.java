@@ -382,7 +382,7 @@ public final class QuorumAlmanac {
     public QuorumAlmanac(int members) {
         int set = Math.min(Math.max(members, 1), ALL_NODES);
         firstSetting = new Entry(0, NEW_MEMBERS, set, set);
-        Snapshot base = new Snapshot(0, 0, firstSetting, toldStore);
+        Snapshot base = new Snapshot(0, 0, firstSetting, new Store());
         for (int i = 0; i < NODES; i++) {
             nodes[i] = new Node(i, base);
         }
