@@ -1001,7 +1001,7 @@ public final class QuorumAlmanac {
         answerRound(n, AGREES, Math.min(n.agreed, n.log.durable));
     }
 
-    /** The hint with which an append is refused, or NONE if the entry ahead of its own fits. */
+    /** The hint with which an append is refused, or NONE. At the index of a snapshot, no entry is left to differ. */
     private static int refusalHint(Log log, Message m) {
         if (m.index < log.base.index) {
             return log.base.index;
@@ -1009,7 +1009,8 @@ public final class QuorumAlmanac {
         if (m.index > log.end) {
             return log.end;
         }
-        return log.termAt(m.index) == m.entryTerm ? NONE : m.index - 1;
+        Entry own = log.at(m.index);
+        return own == null || own.term == m.entryTerm ? NONE : m.index - 1;
     }
 
     private static void mergeEntry(Log log, int index, Entry entry) {

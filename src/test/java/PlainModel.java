@@ -525,7 +525,7 @@ final class PlainModel {
         int ahead = m.get("ahead");
         Integer hint = ahead < n.snap.index ? Integer.valueOf(n.snap.index)
             : ahead > n.last() ? Integer.valueOf(n.last())
-            : n.termAt(ahead) != m.get("aheadTerm") ? Integer.valueOf(ahead - 1) : null;
+            : n.holds(ahead) && n.entry(ahead).term != m.get("aheadTerm") ? Integer.valueOf(ahead - 1) : null;
         if (hint != null) {
             refused += 1;
             send('k', n, m.from, Map.of("refused", 1, "hint", hint, "round", m.get("round")), null, null);
