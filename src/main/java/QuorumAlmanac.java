@@ -235,6 +235,7 @@ public final class QuorumAlmanac {
         /** The snapshot takes the place of the entries up to its index; those behind stay. */
         private void cutShort(Snapshot snapshot) {
             base = snapshot;
+            end = Math.max(end, snapshot.index);
             durable = Math.max(durable, snapshot.index);
         }
 
@@ -288,6 +289,8 @@ public final class QuorumAlmanac {
         /** The last round that it got from that leader. */
         private int lastRound = 0;
         private int committed = 0;
+        /** The term of the last entry that it has applied; a later leader may have cut it off since. */
+        private int appliedTerm = 0;
 
         private Node(int number, Snapshot base) {
             this.number = number;
@@ -297,6 +300,13 @@ public final class QuorumAlmanac {
         private void forgetLeader() {
             leader = NONE;
             agreed = 0;
+        }
+
+        /** It knows the entries of its snapshot to be committed, and no others. */
+        private void knowSnapshot() {
+            committed = log.base.index;
+            appliedTerm = log.base.term;
+            store.takeFrom(log.base.store);
         }
 
         private int lastTerm() {
@@ -425,8 +435,7 @@ public final class QuorumAlmanac {
         n.role = DOWN;
         n.forgetLeader();
         n.log.cutFrom(n.log.durable + 1);
-        n.committed = n.log.base.index;
-        n.store.takeFrom(n.log.base.store);
+        n.knowSnapshot();
         return lost;
     }
 
@@ -452,8 +461,10 @@ public final class QuorumAlmanac {
         if (gone <= 0) {
             throw new IllegalStateException("no entry is applied behind the snapshot");
         }
+        Entry last = n.log.at(n.committed);
+        int term = last == null ? n.appliedTerm : last.term;
         Entry setting = n.log.settingAt(n.log.latestSetting(n.committed));
-        n.log.cutShort(new Snapshot(n.committed, n.log.termAt(n.committed), setting, n.store));
+        n.log.cutShort(new Snapshot(n.committed, term, setting, n.store));
         return gone;
     }
 
@@ -1031,8 +1042,7 @@ public final class QuorumAlmanac {
         }
         if (snapshot.index > n.committed) {
             n.log.replaceBy(snapshot);
-            n.store.takeFrom(snapshot.store);
-            n.committed = snapshot.index;
+            n.knowSnapshot();
         }
         n.agreed = Math.max(n.agreed, snapshot.index);
         answerRound(n, AGREES, Math.min(n.agreed, n.log.durable));
@@ -1072,6 +1082,7 @@ public final class QuorumAlmanac {
             n.committed++;
             Entry entry = n.log.at(n.committed);
             n.store.applyEntry(entry);
+            n.appliedTerm = entry == null ? n.appliedTerm : entry.term;
             if (n.committed == toldCount + 1 && n.committed < LOG_ROOM) {
                 toldCount++;
                 told[toldCount] = entry;
@@ -1133,7 +1144,7 @@ public final class QuorumAlmanac {
     // ---- leases and reads
 
     private static boolean hasOwnCommitted(Node n) {
-        return n.log.termAt(n.committed) == n.term;
+        return n.log.termAt(Math.min(n.committed, n.log.end)) == n.term;
     }
 
     private static boolean holdsLease(Node n) {

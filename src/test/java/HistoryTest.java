@@ -150,7 +150,7 @@ final class HistoryTest {
         x.write(0, 1, 1);
         Play.loseAll(x);
         Play.tickTo(x, 20);
-        Play.loseAllBut(x, lastWish(x, 12));
+        Play.loseAllBut(x, Play.lastOf(x, 'v', 12));
         x.deliver(x.earliest());
         x.deliver(x.earliest());
         Check.due("two leaders", "l 1 l 2", () -> x.role(0) + " " + x.term(0) + " " + x.role(1) + " " + x.term(1));
@@ -158,55 +158,10 @@ final class HistoryTest {
         Check.due("are sound", true, () -> x.isSound());
     }
 
-    private static int lastWish(QuorumAlmanac x, int between) {
-        for (int message = 300; message >= 0; message--) {
-            int number = message;
-            if (Check.told(() -> x.kindOf(number)).equals("v") && x.between(number) == between) {
-                return number;
-            }
-        }
-        return -1;
-    }
-
-    /**
-     * A snapshot takes the place of a whole log, so that one which comes late takes away what a node has synced and
-     * told its leader: entries 4 and 5 are committed by it, and are in no log but that of the leader, which crashes.
-     */
-    private static QuorumAlmanac twoEntriesAreGone() {
-        QuorumAlmanac x = Play.settled();
-        x.write(0, 1, 12);
-        x.write(0, 1, 13);
-        int ofTwo = x.earliest() + 3;
-        x.write(0, 1, 14);
-        x.write(0, 1, 15);
-        int ofFour = x.earliest() + 6;
-        Check.due("appends", "2 1", () -> x.between(ofTwo) + " " + x.between(ofFour));
-        x.sync(0);
-        x.deliver(ofTwo);
-        x.sync(2);
-        x.deliver(ofTwo + 6);
-        Check.due("3 are committed", "3 3", () -> x.committed(0) + " " + x.last(2));
-        x.compact(0);
-        x.askRead(0, 1);
-        int snapshot = ofTwo + 7;
-        Check.due("a snapshot", "s 1", () -> x.kindOf(snapshot) + " " + x.between(snapshot));
-        x.deliver(ofFour);
-        x.sync(1);
-        int answer = ofTwo + 10;
-        Check.due("an answer", "k 10 5", () -> x.kindOf(answer) + " " + x.between(answer) + " " + x.synced(1));
-        x.deliver(snapshot);
-        Check.due("4 and 5 are gone", "3 3", () -> x.last(1) + " " + x.synced(1));
-        x.deliver(answer);
-        Check.due("and committed", "5 5", () -> x.committed(0) + " " + x.history());
-        x.crash(0);
-        Play.loseAll(x);
-        return x;
-    }
-
     private static void isNotSound() {
-        QuorumAlmanac x = twoEntriesAreGone();
+        QuorumAlmanac x = Play.twoEntriesAreGone();
         Play.tickTo(x, 20);
-        x.deliver(lastWish(x, 12));
+        x.deliver(Play.lastOf(x, 'v', 12));
         Play.deliverAll(x);
         Check.due("node 1 leads", "l 4 o", () -> x.role(1) + " " + x.last(1) + " " + x.entryKind(1, 4));
         Check.due("nothing else is known to be committed yet", true, () -> x.isSound());
@@ -220,18 +175,18 @@ final class HistoryTest {
     }
 
     private static void readsAreNotSound() {
-        QuorumAlmanac x = twoEntriesAreGone();
+        QuorumAlmanac x = Play.twoEntriesAreGone();
         Play.tickTo(x, 20);
-        x.deliver(lastWish(x, 12));
+        x.deliver(Play.lastOf(x, 'v', 12));
         Play.deliverAll(x);
         Play.syncAll(x);
         Play.deliverAll(x);
         Check.due("a read by lease", 13, () -> x.readByLease(1, 1));
         x.crash(1);
         Check.due("of a value that the history has no more", false, () -> x.isSound());
-        QuorumAlmanac y = twoEntriesAreGone();
+        QuorumAlmanac y = Play.twoEntriesAreGone();
         Play.tickTo(y, 20);
-        y.deliver(lastWish(y, 12));
+        y.deliver(Play.lastOf(y, 'v', 12));
         Play.deliverAll(y);
         Play.syncAll(y);
         Play.deliverAll(y);
@@ -241,9 +196,9 @@ final class HistoryTest {
         y.crash(1);
         y.crash(2);
         Check.due("of a value that the history had ahead of it", false, () -> y.isSound());
-        QuorumAlmanac z = twoEntriesAreGone();
+        QuorumAlmanac z = Play.twoEntriesAreGone();
         Play.tickTo(z, 20);
-        z.deliver(lastWish(z, 12));
+        z.deliver(Play.lastOf(z, 'v', 12));
         Play.deliverAll(z);
         Play.syncAll(z);
         Play.deliverAll(z);

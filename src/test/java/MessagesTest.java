@@ -268,16 +268,8 @@ final class MessagesTest {
         Check.due("and is a follower in this term", "f 3", () -> y.role(0) + " " + y.term(0));
     }
 
-    /** The latest message of this kind between these two. */
     private static int lastOf(QuorumAlmanac x, char kind, int between) {
-        int found = -1;
-        for (int message = 0; message < 400; message++) {
-            int number = message;
-            if (Check.told(() -> x.kindOf(number)).equals(String.valueOf(kind)) && x.between(number) == between) {
-                found = number;
-            }
-        }
-        return found;
+        return Play.lastOf(x, kind, between);
     }
 
     // Answers
@@ -406,13 +398,6 @@ final class MessagesTest {
         appendAheadOfTheSnapshot();
     }
 
-    /** The voter votes for the node that stands, which leads by this. */
-    private static void voteFor(QuorumAlmanac x, int node, int voter) {
-        x.deliver(wishOf(x, node, voter));
-        x.deliver(lastOf(x, 'y', 10 * voter + node));
-        Check.due("by a vote more", 'l', () -> x.role(node));
-    }
-
     private static void appendLeavesAGap() {
         QuorumAlmanac x = Play.settled();
         for (int i = 0; i < 3; i++) {
@@ -423,7 +408,7 @@ final class MessagesTest {
         Play.loseAll(x);
         x.crash(0);
         Play.tickTo(x, 20);
-        voteFor(x, 1, 2);
+        Play.voteFor(x, 1, 2);
         Check.due("4 entries and an 'o'", "5 1", () -> x.last(1) + " " + x.last(2));
         x.deliver(lastOf(x, 'a', 12));
         Check.due("the append of the 'o' is refused", 1, () -> x.last(2));
@@ -443,7 +428,7 @@ final class MessagesTest {
         Play.loseAll(x);
         x.crash(0);
         Play.tickTo(x, 20);
-        voteFor(x, 1, 2);
+        Play.voteFor(x, 1, 2);
         x.write(1, 1, 7);
         x.write(1, 1, 8);
         x.deliver(lastOf(x, 'a', 12));
@@ -453,7 +438,7 @@ final class MessagesTest {
         x.crash(1);
         x.start(0);
         Play.tickTo(x, 32);
-        voteFor(x, 2, 0);
+        Play.voteFor(x, 2, 0);
         Check.due("node 0 has 4 entries of term 1", "4 1", () -> x.last(0) + " " + x.entryTerm(0, 4));
         for (int i = 0; i < 3; i++) {
             x.deliver(lastOf(x, 'a', 20));
@@ -576,7 +561,7 @@ final class MessagesTest {
         Play.tickTo(x, 20);
         x.deliver(wishOf(x, 1, 3));
         x.deliver(lastOf(x, 'y', 31));
-        voteFor(x, 1, 4);
+        Play.voteFor(x, 1, 4);
         x.write(1, 2, 2);
         x.deliver(lastOf(x, 'a', 13));
         x.deliver(lastOf(x, 'a', 14));
@@ -594,7 +579,7 @@ final class MessagesTest {
         Check.due("node 3 stands", 'c', () -> x.role(3));
         x.deliver(wishOf(x, 3, 4));
         x.deliver(lastOf(x, 'y', 43));
-        voteFor(x, 3, 0);
+        Play.voteFor(x, 3, 0);
         x.deliver(lastOf(x, 'a', 32));
         Check.due("node 2 refuses", "3 1", () -> x.last(2) + " " + x.entryTerm(2, 3));
         x.deliver(lastOf(x, 'k', 23));
@@ -625,7 +610,7 @@ final class MessagesTest {
         x.tick(0);
         x.deliver(wishOf(x, 0, 2));
         x.deliver(lastOf(x, 'y', 20));
-        voteFor(x, 0, 3);
+        Play.voteFor(x, 0, 3);
         Check.due("node 0 leads again, with another entry 2", "2 2", () -> x.last(0) + " " + x.entryTerm(0, 2));
         x.sync(0);
         x.deliver(lastOf(x, 'a', 2));
@@ -651,7 +636,7 @@ final class MessagesTest {
         Play.loseAll(x);
         Play.tickTo(x, 19);
         x.tick(0);
-        voteFor(x, 0, 1);
+        Play.voteFor(x, 0, 1);
         x.sync(0);
         x.deliver(lastOf(x, 'a', 1));
         x.deliver(lastOf(x, 'k', 10));
@@ -708,7 +693,7 @@ final class MessagesTest {
         Play.loseAll(z);
         z.crash(0);
         Play.tickTo(z, 20);
-        voteFor(z, 1, 2);
+        Play.voteFor(z, 1, 2);
         z.deliver(lastOf(z, 'a', 12));
         int refusal = z.copy(lastOf(z, 'k', 21));
         Play.loseAllBut(z, refusal);
@@ -801,7 +786,7 @@ final class MessagesTest {
         Play.loseAll(x);
         x.crash(0);
         Play.tickTo(x, 20);
-        voteFor(x, 1, 2);
+        Play.voteFor(x, 1, 2);
         Play.deliverAll(x);
         Play.syncAll(x);
         Play.deliverAll(x);

@@ -1,3 +1,5 @@
+import java.util.ArrayList;
+import java.util.List;
 import java.util.Random;
 
 /**
@@ -38,7 +40,11 @@ final class ModelTest {
         {25, 20, 3, 8, 6, 80, 10, 10, 12, 2, 10, 3, 4, 5},
         {2, 40, 0, 0, 2, 90, 0, 2, 5, 1, 20, 1, 8, 10},
         {20, 25, 3, 9, 14, 60, 4, 10, 16, 2, 2, 3, 6, 5},
+        {30, 25, 1, 6, 10, 50, 1, 2, 14, 2, 2, 3, 4, 5},
+        {100, 14, 1, 3, 2, 60, 1, 4, 12, 1, 4, 3, 4, 5},
     };
+    /** From this way of drawing on, a run begins with committed entries that are in the log of the leader alone. */
+    private static final int FIRST_UNSOUND = 7;
     /** And while none does: the nodes tick together, so that an election takes some fifty calls. */
     private static final int[] LEADERLESS = {100, 4, 1, 2, 1, 30, 1, 1, 1, 1, 1, 1, 1, 4};
 
@@ -51,12 +57,17 @@ final class ModelTest {
     /** How far the ticking nodes may drift apart. */
     private final int drift;
     private final boolean looksAtAll;
+    private final boolean isUnsound;
+    /** A node that gets no messages, and whose own ones get nowhere, for a while; or none. */
+    private int cutOff = -1;
     private final int[] used = new int[NAMES.length];
     private int calls = 0;
 
     private ModelTest(long seed, int way, boolean looksAtAll) {
         random = new Random(seed);
-        int members = random.nextInt(3) == 0 ? random.nextInt(40) - 4 : 7 + 8 * random.nextInt(4);
+        isUnsound = way >= FIRST_UNSOUND;
+        int members = isUnsound ? 7
+            : random.nextInt(3) == 0 ? random.nextInt(40) - 4 : 7 + 8 * random.nextInt(4);
         real = new QuorumAlmanac(members);
         model = new PlainModel(members);
         weights = WAYS[way];
@@ -94,8 +105,11 @@ final class ModelTest {
     }
 
     private boolean run() {
+        if (isUnsound && !loseCommitted()) {
+            return false;
+        }
         // Fewer nodes, fewer ticks.
-        for (int down = random.nextInt(4); down > 0; down--) {
+        for (int down = isUnsound ? 0 : random.nextInt(4); down > 0; down--) {
             if (!both(CRASH, random.nextInt(5), 0, 0)) {
                 return false;
             }
@@ -108,7 +122,52 @@ final class ModelTest {
         return true;
     }
 
+    /** As in HistoryTest: a snapshot that comes late takes entries from a node that has told its leader of them. */
+    private boolean loseCommitted() {
+        boolean isSame = both(CRASH, 3, 0, 0) && both(CRASH, 4, 0, 0);
+        for (int i = 0; i < 27; i++) {
+            isSame = isSame && both(TICK, i % 3, 0, 0);
+        }
+        isSame = isSame && both(TICK, 0, 0, 0) && deliverLatest('v', 1) && deliverLatest('y', 10);
+        isSame = isSame && both(SYNC, 0, 0, 0);
+        for (int i = random.nextInt(3); i > 0; i--) {
+            isSame = isSame && both(WRITE, 0, key(), value());
+        }
+        int ofTwo = latest('a', 2);
+        for (int i = 1 + random.nextInt(3); i > 0; i--) {
+            isSame = isSame && both(WRITE, 0, key(), value());
+        }
+        int ofMore = latest('a', 1);
+        isSame = isSame && both(SYNC, 0, 0, 0) && both(DELIVER, ofTwo, 0, 0) && both(SYNC, 2, 0, 0);
+        isSame = isSame && deliverLatest('k', 20) && both(COMPACT, 0, 0, 0) && both(ASK_READ, 0, 1, 0);
+        int snapshot = latest('s', 1);
+        isSame = isSame && both(DELIVER, ofMore, 0, 0) && both(SYNC, 1, 0, 0);
+        int answer = latest('k', 10);
+        isSame = isSame && both(DELIVER, snapshot, 0, 0) && both(DELIVER, answer, 0, 0);
+        while (isSame && random.nextInt(6) > 0 && !model.queue.isEmpty()) {
+            isSame = both(LOSE, model.queue.firstKey(), 0, 0);
+        }
+        cutOff = 0;
+        return isSame && (random.nextBoolean() || both(COMPACT, 0, 0, 0))
+            && (random.nextInt(4) > 0 || both(CRASH, 0, 0, 0));
+    }
+
+    private boolean deliverLatest(char kind, int between) {
+        return both(DELIVER, latest(kind, between), 0, 0);
+    }
+
+    private int latest(char kind, int between) {
+        int found = -1;
+        for (PlainModel.Msg m : model.queue.values()) {
+            found = m.kind() == kind && 10 * m.from() + m.to() == between ? m.number() : found;
+        }
+        return found;
+    }
+
     private boolean step() {
+        if (isUnsound && random.nextInt(doOthersLead() ? 40 : 1000) == 0) {
+            cutOff = random.nextInt(6) - 1;
+        }
         int what = draw(model.role(someLeader()) == 'l' ? weights : LEADERLESS);
         boolean isStrange = random.nextInt(60) == 0;
         int node = isStrange ? random.nextInt(9) - 2 : random.nextInt(5);
@@ -187,6 +246,14 @@ final class ModelTest {
         return best;
     }
 
+    private boolean doOthersLead() {
+        boolean isOne = false;
+        for (PlainModel.Nd n : model.nodes) {
+            isOne |= n.id != 0 && n.runs && n.role == 'l';
+        }
+        return isOne;
+    }
+
     private int downNode() {
         int from = random.nextInt(5);
         for (int i = 0; i < 5; i++) {
@@ -212,11 +279,16 @@ final class ModelTest {
         if (model.queue.isEmpty()) {
             return 0;
         }
-        if (isOrderly && random.nextInt(6) > 0) {
-            return model.queue.firstKey();
+        List<Integer> numbers = new ArrayList<>();
+        for (PlainModel.Msg m : model.queue.values()) {
+            if (m.from() != cutOff && m.to() != cutOff) {
+                numbers.add(m.number());
+            }
         }
-        Integer[] numbers = model.queue.keySet().toArray(new Integer[0]);
-        return numbers[random.nextInt(numbers.length)];
+        if (numbers.isEmpty()) {
+            return -1;
+        }
+        return numbers.get(isOrderly && random.nextInt(6) > 0 ? 0 : random.nextInt(numbers.size()));
     }
 
     private boolean both(int what, int a, int b, int c) {

@@ -20,6 +20,15 @@ final class PlainModel {
             return new Applied(new TreeMap<>(values), new TreeMap<>(counts));
         }
 
+        boolean isSame(Applied other) {
+            for (int key = 0; key < 20; key++) {
+                if (!values.getOrDefault(key, 0).equals(other.values.getOrDefault(key, 0))) {
+                    return false;
+                }
+            }
+            return counts.equals(other.counts);
+        }
+
         int first(int key) {
             return counts.floorKey(key);
         }
@@ -72,11 +81,22 @@ final class PlainModel {
         int synced;
         Snap snap;
         final List<Ent> entries = new ArrayList<>();
+        /** What it has applied, and the term of the last entry of this; entries of it may have been cut off since. */
+        Applied applied;
+        int appliedTerm;
         Leading leading;
 
         Nd(int id, Snap snap) {
             this.id = id;
+            know(snap);
+        }
+
+        /** It knows the entries of this snapshot to be committed, and no others. */
+        void know(Snap snap) {
             this.snap = snap;
+            committed = snap.index;
+            applied = snap.applied.copied();
+            appliedTerm = snap.term;
         }
 
         int last() {
@@ -91,12 +111,13 @@ final class PlainModel {
             return entries.get(index - snap.index - 1);
         }
 
+        /** The term at this index, or -1 if neither an entry nor the snapshot tells it. */
         int termAt(int index) {
-            return index == snap.index ? snap.term : entry(index).term;
+            return index == snap.index ? snap.term : holds(index) ? entry(index).term : -1;
         }
 
         int settingAt(int limit) {
-            for (int i = limit; i > snap.index; i--) {
+            for (int i = Math.min(limit, last()); i > snap.index; i--) {
                 if ("jn".indexOf(entry(i).kind) >= 0) {
                     return i;
                 }
@@ -107,14 +128,6 @@ final class PlainModel {
         Ent setting(int limit) {
             int at = settingAt(limit);
             return at == snap.index ? snap.setting : entry(at);
-        }
-
-        Applied applied() {
-            Applied all = snap.applied.copied();
-            for (int i = snap.index + 1; i <= committed; i++) {
-                all.take(entry(i));
-            }
-            return all;
         }
 
         void cut(int from) {
@@ -148,7 +161,7 @@ final class PlainModel {
 
         boolean ownCommitted() {
             for (int i = snap.index + 1; i <= committed; i++) {
-                if (entry(i).term == term) {
+                if (termAt(i) == term) {
                     return true;
                 }
             }
@@ -370,7 +383,7 @@ final class PlainModel {
         follow(n);
         n.cut(n.synced + 1);
         n.runs = false;
-        n.committed = n.snap.index;
+        n.know(n.snap);
         n.leader = null;
         n.agrees = 0;
         n.lastRound = 0;
@@ -396,11 +409,12 @@ final class PlainModel {
         state(n.runs);
         state(n.committed > n.snap.index);
         int gone = n.committed - n.snap.index;
-        Snap snap = new Snap(n.committed, n.termAt(n.committed), n.setting(n.committed), n.applied());
-        for (int i = 0; i < gone; i++) {
+        int term = n.holds(n.committed) ? n.entry(n.committed).term : n.appliedTerm;
+        Snap snap = new Snap(n.committed, term, n.setting(n.committed), n.applied.copied());
+        for (int i = 0; i < gone && !n.entries.isEmpty(); i++) {
             n.entries.remove(0);
         }
-        n.snap = snap;
+        n.know(snap);
         n.synced = Math.max(n.synced, snap.index);
         return gone;
     }
@@ -513,10 +527,9 @@ final class PlainModel {
         n.calmFrom = n.clock;
         if (m.kind == 's') {
             if (m.snap.index > n.committed) {
-                n.snap = m.snap;
+                n.know(m.snap);
                 n.entries.clear();
                 n.synced = m.snap.index;
-                n.committed = m.snap.index;
             }
             n.agrees = Math.max(n.agrees, m.snap.index);
             agree(n);
@@ -549,6 +562,8 @@ final class PlainModel {
     void commit(Nd n, int upTo) {
         while (n.committed < upTo) {
             n.committed += 1;
+            n.applied.take(n.entry(n.committed));
+            n.appliedTerm = n.entry(n.committed).term;
             if (history.size() < n.committed) {
                 history.add(n.entry(n.committed));
             }
@@ -614,7 +629,7 @@ final class PlainModel {
         for (Rd r : reads) {
             if (r.node == n && r.state == 'w' && n.majorityRound() >= r.round) {
                 r.state = 'r';
-                r.value = n.applied().values.getOrDefault(r.key, 0);
+                r.value = n.applied.values.getOrDefault(r.key, 0);
                 boolean found = false;
                 for (int i = r.askedAt; i <= history.size(); i++) {
                     found |= appliedHistory(i).values.getOrDefault(r.key, 0) == r.value;
@@ -663,7 +678,7 @@ final class PlainModel {
         Nd n = node(node);
         argument(key >= 0 && key <= 19);
         state(n.lease());
-        int value = n.applied().values.getOrDefault(key, 0);
+        int value = n.applied.values.getOrDefault(key, 0);
         readsSound &= value == appliedHistory(history.size()).values.getOrDefault(key, 0);
         return value;
     }
@@ -701,7 +716,7 @@ final class PlainModel {
         Nd n = node(node);
         argument(key >= 0 && key <= 19);
         state(n.runs);
-        return n.applied();
+        return n.applied;
     }
 
     // ---- the history
@@ -758,7 +773,7 @@ final class PlainModel {
 
     private boolean isAsTold(Nd n) {
         for (int i = n.snap.index + 1; i <= n.committed; i++) {
-            if (!n.entry(i).equals(history.get(i - 1))) {
+            if (!n.holds(i) || !n.entry(i).equals(history.get(i - 1))) {
                 return false;
             }
         }
@@ -767,8 +782,8 @@ final class PlainModel {
             setting = e.kind == 'j' || e.kind == 'n' ? e : setting;
         }
         int term = n.snap.index == 0 ? 0 : history.get(n.snap.index - 1).term;
-        Applied told = appliedHistory(n.snap.index);
-        return term == n.snap.term && setting.equals(n.snap.setting) && told.counts.equals(n.snap.applied.counts)
-            && told.values.equals(n.snap.applied.values);
+        return term == n.snap.term && setting.equals(n.snap.setting)
+            && n.snap.applied.isSame(appliedHistory(n.snap.index))
+            && n.applied.isSame(appliedHistory(n.committed));
     }
 }

@@ -48,6 +48,25 @@ final class Play {
         }
     }
 
+    /** The latest message of this kind between these two, or -1. */
+    static int lastOf(QuorumAlmanac x, char kind, int between) {
+        int found = -1;
+        for (int message = 0; message < 400; message++) {
+            int number = message;
+            if (Check.told(() -> x.kindOf(number)).equals(String.valueOf(kind)) && x.between(number) == between) {
+                found = number;
+            }
+        }
+        return found;
+    }
+
+    /** The voter votes for the node that stands, which leads by this. */
+    static void voteFor(QuorumAlmanac x, int node, int voter) {
+        x.deliver(lastOf(x, 'v', 10 * node + voter));
+        x.deliver(lastOf(x, 'y', 10 * voter + node));
+        Check.due("by a vote more", 'l', () -> x.role(node));
+    }
+
     static void syncAll(QuorumAlmanac x) {
         for (int node = 0; node < 5; node++) {
             if (x.role(node) != 'd') {
@@ -115,6 +134,44 @@ final class Play {
             x.tick(2);
         }
         deliverAll(x);
+    }
+
+    /**
+     * A snapshot takes the place of a whole log, so that one which comes late takes away what a node has synced and
+     * told its leader: entries 4 and 5 are committed by it, and are in no log but that of the leader.
+     */
+    static QuorumAlmanac twoEntriesAreAlone() {
+        QuorumAlmanac x = settled();
+        x.write(0, 1, 12);
+        x.write(0, 1, 13);
+        int ofTwo = lastOf(x, 'a', 2);
+        x.write(0, 1, 14);
+        x.write(0, 1, 15);
+        int ofFour = lastOf(x, 'a', 1);
+        x.sync(0);
+        x.deliver(ofTwo);
+        x.sync(2);
+        x.deliver(lastOf(x, 'k', 20));
+        Check.due("3 are committed", "3 3", () -> x.committed(0) + " " + x.last(2));
+        x.compact(0);
+        x.askRead(0, 1);
+        x.deliver(ofFour);
+        x.sync(1);
+        int answer = lastOf(x, 'k', 10);
+        Check.due("5 are synced", 5, () -> x.synced(1));
+        x.deliver(lastOf(x, 's', 1));
+        Check.due("4 and 5 are gone", "3 3", () -> x.last(1) + " " + x.synced(1));
+        x.deliver(answer);
+        Check.due("and committed", "5 5", () -> x.committed(0) + " " + x.history());
+        loseAll(x);
+        return x;
+    }
+
+    /** And the leader crashes. */
+    static QuorumAlmanac twoEntriesAreGone() {
+        QuorumAlmanac x = twoEntriesAreAlone();
+        x.crash(0);
+        return x;
     }
 
     /** What all queries answer, as one text: nothing is changed if it stays the same. */
