@@ -124,6 +124,15 @@ final class LossTest {
         x.write(1, 2, 23);
         x.deliver(Play.lastOf(x, 'a', 10));
         Check.due("entries behind it", "6 2 1", () -> x.last(0) + " " + x.entryTerm(0, 6) + " " + x.sync(0));
+        // The snapshot is of the term of what was applied: node 0 may lead those that have less of this term.
+        QuorumAlmanac y = otherEntryFour();
+        y.deliver(Play.lastOf(y, 'a', 10));
+        y.compact(0);
+        y.crash(1);
+        Play.loseAll(y);
+        Play.tickTo(y, 30);
+        Check.due("node 2 has 3 entries of term 1", "3 1", () -> y.last(2) + " " + y.entryTerm(2, 3));
+        Play.voteFor(y, 0, 2);
     }
 
     private static void snapshotOfWhatWasReplaced() {
