@@ -74,30 +74,8 @@ final class MessagesTest {
         Check.due("an append", "a 2", () -> x.kindOf(4) + " " + x.between(4));
         x.deliver(4);
         Check.due("its answer", "k 20", () -> x.kindOf(5) + " " + x.between(5));
-        QuorumAlmanac y = behindASnapshot();
+        QuorumAlmanac y = Play.behindASnapshot();
         Check.due("a snapshot", "s 2", () -> y.kindOf(y.earliest()) + " " + y.between(y.earliest()));
-    }
-
-    /** Node 0 has a snapshot up to 2 in place of what node 2 never got; a snapshot to it waits alone. */
-    private static QuorumAlmanac behindASnapshot() {
-        QuorumAlmanac x = Play.elected();
-        x.sync(0);
-        x.deliver(3);
-        x.lose(4);
-        x.sync(1);
-        x.deliver(x.earliest());
-        x.deliver(x.earliest());
-        x.write(0, 6, 66);
-        x.deliver(x.earliest());
-        x.sync(0);
-        x.sync(1);
-        Play.loseAll(x);
-        x.sync(1);
-        x.deliver(x.earliest());
-        x.compact(0);
-        x.write(0, 6, 67);
-        x.lose(x.earliest());
-        return x;
     }
 
     private static void atMostSixty() {
@@ -538,19 +516,8 @@ final class MessagesTest {
         Check.due("an earlier append takes back nothing", 3, () -> x.committed(0));
     }
 
-    /** Of five, node 0 leads term 1; the 'o' is synced by all; nodes 1 to 4 have the clock 9. */
-    private static QuorumAlmanac fiveSettled() {
-        QuorumAlmanac x = new QuorumAlmanac(31);
-        Play.tickTo(x, 9);
-        x.tick(0);
-        Play.deliverAll(x);
-        Play.syncAll(x);
-        Play.deliverAll(x);
-        return x;
-    }
-
     private static void agreementOfThisTerm() {
-        QuorumAlmanac x = fiveSettled();
+        QuorumAlmanac x = Play.fiveSettled();
         x.write(0, 1, 1);
         x.write(0, 1, 2);
         x.deliver(lastOf(x, 'a', 2));
@@ -571,31 +538,34 @@ final class MessagesTest {
         x.crash(1);
         x.start(0);
         x.start(1);
-        Play.tickTo(x, 30);
-        Play.loseAll(x);
-        for (int clock = 31; clock <= 33; clock++) {
-            Play.tickTo(x, clock);
-        }
+        Play.tickTo(x, 32);
+        x.tick(3);
         Check.due("node 3 stands", 'c', () -> x.role(3));
-        x.deliver(wishOf(x, 3, 4));
-        x.deliver(lastOf(x, 'y', 43));
-        Play.voteFor(x, 3, 0);
-        x.deliver(lastOf(x, 'a', 32));
+        // By numbers, as an object is promised for 512 calls: the wishes to 0, 1, 2 and 4 are ahead of this copy.
+        int copy = x.copy(x.earliest());
+        x.deliver(copy - 1);
+        x.deliver(copy + 1);
+        x.deliver(copy - 4);
+        x.deliver(copy + 2);
+        Check.due("node 3 leads; its append to node 2", "l a 32",
+            () -> x.role(3) + " " + x.kindOf(copy + 5) + " " + x.between(copy + 5));
+        x.deliver(copy + 5);
         Check.due("node 2 refuses", "3 1", () -> x.last(2) + " " + x.entryTerm(2, 3));
-        x.deliver(lastOf(x, 'k', 23));
+        x.deliver(copy + 7);
         x.sync(2);
-        x.deliver(lastOf(x, 'k', 23));
+        x.deliver(copy + 8);
         x.write(3, 1, 3);
-        x.deliver(lastOf(x, 'a', 32));
-        x.deliver(lastOf(x, 'k', 23));
+        x.deliver(copy + 11);
+        x.deliver(copy + 13);
         x.write(3, 1, 4);
-        x.deliver(lastOf(x, 'a', 32));
+        Check.due("another append to node 2", "a 32", () -> x.kindOf(copy + 16) + " " + x.between(copy + 16));
+        x.deliver(copy + 16);
         Check.due("it agrees to nothing by what another term told it", "5 2",
             () -> x.last(2) + " " + x.entryTerm(2, 3));
     }
 
     private static void agreementOfThisLeader() {
-        QuorumAlmanac x = fiveSettled();
+        QuorumAlmanac x = Play.fiveSettled();
         for (int i = 0; i < 4; i++) {
             x.write(0, 1, i);
         }
@@ -705,7 +675,7 @@ final class MessagesTest {
 
     // Snapshots
     private static void snapshotIsSent() {
-        QuorumAlmanac x = behindASnapshot();
+        QuorumAlmanac x = Play.behindASnapshot();
         Check.due("the snapshot of the leader", 2, () -> x.snapshot(0));
         Check.due("the log of node 2", 0, () -> x.last(2));
         Check.due("it answers", 1, () -> x.deliver(x.earliest()));
@@ -721,7 +691,7 @@ final class MessagesTest {
     }
 
     private static void snapshotIsNotNeeded() {
-        QuorumAlmanac x = behindASnapshot();
+        QuorumAlmanac x = Play.behindASnapshot();
         int snapshot = x.earliest();
         int twin = x.copy(snapshot);
         x.deliver(snapshot);
