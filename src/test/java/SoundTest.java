@@ -5,8 +5,12 @@ final class SoundTest {
         twoLeadersOfATerm();
         differentEntriesOfATerm();
         differentEntriesFurtherAhead();
+        whatEntriesTell();
+        firstAndLastThatBothHave();
+        splitThatOneHasApplied();
         committedEntryIsAnother();
         snapshotIsOfAnother();
+        snapshotOfTheSameTerm();
         storeIsOfWhatIsGone();
         readByLease();
         Check.end();
@@ -41,10 +45,10 @@ final class SoundTest {
     }
 
     /**
-     * Node 0 leads term 2 as the one member of the set that it alone knows of, with a 'j', an 'n' and an 'o' behind its
-     * snapshot of 2; the others, from which a late snapshot has taken the 'j', have 2 entries, and node 1 stands.
+     * Node 0 is the one member of the set that it alone knows of, by a 'j' and an 'n' behind its snapshot of 2; the
+     * others, from which a late snapshot has taken the 'j', have 2 entries. No message waits.
      */
-    private static QuorumAlmanac memberAlone() {
+    private static QuorumAlmanac setOfOne() {
         QuorumAlmanac x = Play.settled();
         x.write(0, 1, 2);
         int ofTwo = Play.lastOf(x, 'a', 2);
@@ -67,6 +71,12 @@ final class SoundTest {
         Check.due("and not known to the others", "2 7 2 7", () -> x.last(1) + " " + x.members(1) + " " + x.last(2)
             + " " + x.members(2));
         Play.loseAll(x);
+        return x;
+    }
+
+    /** And leads term 2, with an 'o' at 5; node 1 stands in this term. */
+    private static QuorumAlmanac memberAlone() {
+        QuorumAlmanac x = setOfOne();
         x.crash(0);
         x.start(0);
         Play.tickTo(x, 20);
@@ -127,6 +137,96 @@ final class SoundTest {
         Check.due("down to what was synced", "4 true", () -> x.last(0) + " " + x.isSound());
     }
 
+    /**
+     * Nodes 0 and 1 lead term 3. The snapshot of node 0 goes to 4, and its 'o' is at 5; that of node 1 goes to 2, and its
+     * 'o' is behind so many entries of term 2.
+     */
+    private static QuorumAlmanac twoOfTermThree(int entries) {
+        QuorumAlmanac x = setOfOne();
+        x.compact(0);
+        x.crash(0);
+        x.start(0);
+        Play.tickTo(x, 20);
+        Play.voteFor(x, 1, 2);
+        for (int i = 1; i < entries; i++) {
+            x.write(1, 5, 5);
+        }
+        x.sync(1);
+        x.crash(0);
+        x.crash(1);
+        x.start(0);
+        x.start(1);
+        Play.loseAll(x);
+        Play.tickTo(x, 31);
+        Play.voteFor(x, 1, 2);
+        Check.due("two leaders", "l 3 5 l 3 " + (3 + entries), () -> x.role(0) + " " + x.term(0) + " " + x.last(0) + " "
+            + x.role(1) + " " + x.term(1) + " " + x.last(1));
+        return x;
+    }
+
+    /** Whether all is sound with an entry more at the one and at the other leader, of which the other is down then. */
+    private static Object soundWith(int key, int value, boolean isWrite) {
+        QuorumAlmanac x = twoOfTermThree(2);
+        x.write(0, 6, 66);
+        if (isWrite) {
+            x.write(1, key, value);
+        } else {
+            x.reshape(1, key, true);
+        }
+        x.sync(1);
+        x.crash(1);
+        return x.last(1) + " " + x.entryTerm(1, 6) + " " + x.isSound();
+    }
+
+    private static void whatEntriesTell() {
+        Check.due("the same write", "6 3 true", () -> soundWith(6, 66, true));
+        Check.due("another value", "6 3 false", () -> soundWith(6, 67, true));
+        Check.due("another key", "6 3 false", () -> soundWith(7, 66, true));
+        Check.due("another kind", "6 3 false", () -> soundWith(6, 0, false));
+    }
+
+    private static void firstAndLastThatBothHave() {
+        QuorumAlmanac x = twoOfTermThree(1);
+        x.write(0, 6, 66);
+        x.write(1, 5, 5);
+        x.write(1, 6, 66);
+        x.sync(1);
+        x.crash(1);
+        Check.due("the first one differs", "5 o3 w3", () -> x.last(0) - 1 + " " + x.entryKind(0, 5) + x.entryTerm(0, 5) + " "
+            + x.entryKind(1, 5) + x.entryTerm(1, 5));
+        Check.due("which is told by a later one too", false, () -> x.isSound());
+        QuorumAlmanac y = twoOfTermThree(2);
+        y.write(0, 6, 66);
+        y.write(0, 6, 67);
+        y.write(1, 6, 66);
+        y.sync(1);
+        y.crash(1);
+        Check.due("what one has alone is as it is", "7 6 true", () -> y.last(0) + " " + y.last(1) + " " + y.isSound());
+    }
+
+    private static void splitThatOneHasApplied() {
+        QuorumAlmanac x = Play.settled();
+        x.reshape(0, 5, true);
+        x.write(0, 7, 7);
+        x.sync(0);
+        x.deliver(Play.lastOf(x, 'a', 1));
+        x.sync(1);
+        x.deliver(Play.lastOf(x, 'k', 10));
+        Check.due("the others have not", "5 0 0 true", () -> x.rangeOf(0, 7) + " " + x.rangeOf(1, 7) + " "
+            + x.rangeOf(2, 7) + " " + x.isSound());
+        x.reshape(0, 5, false);
+        x.sync(0);
+        x.deliver(Play.lastOf(x, 'a', 1));
+        Check.due("one has, and one has merged it", "5 0 0 true", () -> x.rangeOf(1, 7) + " "
+            + commitByOne(x) + " " + x.rangeOf(2, 7) + " " + x.isSound());
+    }
+
+    private static int commitByOne(QuorumAlmanac x) {
+        x.sync(1);
+        x.deliver(Play.lastOf(x, 'k', 10));
+        return x.rangeOf(0, 7);
+    }
+
     /** Entries 4 and 5 of the history are gone, and node 1 has committed another entry 4. */
     private static QuorumAlmanac anotherEntryFour() {
         QuorumAlmanac x = Play.twoEntriesAreGone();
@@ -159,6 +259,23 @@ final class SoundTest {
             () -> x.readStale(1, 1) + " " + x.valueByHistory(1) + " " + x.isSound());
         x.crash(1);
         Check.due("and is not forgotten", "4 false", () -> x.committed(1) + " " + x.isSound());
+    }
+
+    private static void snapshotOfTheSameTerm() {
+        QuorumAlmanac x = anotherEntryFour();
+        x.write(1, 2, 22);
+        x.write(1, 2, 22);
+        Play.deliverAll(x);
+        x.sync(1);
+        x.sync(2);
+        Play.deliverAll(x);
+        Check.due("entry 6 is that of the history", "6 6", () -> x.committed(1) + " " + x.history());
+        Check.due("a snapshot of it", 3, () -> x.compact(1));
+        x.crash(1);
+        Check.due("holds what the lost entries have not written", "13 15 false", () -> {
+            x.start(1);
+            return x.readStale(1, 1) + " " + x.valueByHistory(1) + " " + x.isSound();
+        });
     }
 
     private static void storeIsOfWhatIsGone() {
