@@ -70,8 +70,11 @@ public final class QuorumAlmanac {
         }
 
         private boolean isSame(Entry other) {
-            return other != null && term == other.term && kind == other.kind
-                && first == other.first && second == other.second;
+            return other != null && term == other.term && tellsSame(other);
+        }
+
+        private boolean tellsSame(Entry other) {
+            return other != null && kind == other.kind && first == other.first && second == other.second;
         }
     }
 
@@ -457,10 +460,11 @@ public final class QuorumAlmanac {
 
     public int compact(int node) throws IndexOutOfBoundsException, IllegalStateException {
         Node n = runningNode(node);
-        int gone = n.committed - n.log.base.index;
-        if (gone <= 0) {
+        if (n.committed <= n.log.base.index) {
             throw new IllegalStateException("no entry is applied behind the snapshot");
         }
+        // What was applied may have been cut off since: such entries are gone already.
+        int gone = Math.min(n.committed, n.log.end) - n.log.base.index;
         Entry last = n.log.at(n.committed);
         int term = last == null ? n.appliedTerm : last.term;
         Entry setting = n.log.settingAt(n.log.latestSetting(n.committed));
@@ -1245,7 +1249,7 @@ public final class QuorumAlmanac {
         return true;
     }
 
-    /** Whether its snapshot, its committed entries and its store are what the history makes of them. */
+    /** Whether its committed entries, and store and members of its snapshot and of now, are as the history makes them. */
     private boolean isAsTold(Node n) {
         Snapshot base = n.log.base;
         if (n.committed > toldCount) {
@@ -1253,7 +1257,7 @@ public final class QuorumAlmanac {
         }
         replayed.empty();
         Entry setting = replay(0, base.index, firstSetting);
-        if (!setting.isSame(base.setting) || !replayed.isSame(base.store) || toldTerm(base.index) != base.term) {
+        if (!setting.tellsSame(base.setting) || !replayed.isSame(base.store)) {
             return false;
         }
         for (int i = base.index + 1; i <= n.committed && i < LOG_ROOM; i++) {
@@ -1264,10 +1268,6 @@ public final class QuorumAlmanac {
         }
         replay(base.index, n.committed, setting);
         return replayed.isSame(n.store);
-    }
-
-    private int toldTerm(int index) {
-        return index > 0 && index <= toldCount && told[index] != null ? told[index].term : 0;
     }
 
     /** Applies the history behind one index up to another to the store for checks; returns the latest 'j' or 'n'. */

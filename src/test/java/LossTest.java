@@ -109,7 +109,8 @@ final class LossTest {
     private static void snapshotOfWhatWasCutOff() {
         QuorumAlmanac x = otherEntryFour();
         x.deliver(Play.lastOf(x, 'a', 10));
-        Check.due("a snapshot of what was applied", 2, () -> x.compact(0));
+        Check.due("a snapshot of what was applied, in place of the one entry that is left", "4 1",
+            () -> x.last(0) + " " + x.compact(0));
         Check.due("up to 5", "5 5 5 5",
             () -> x.last(0) + " " + x.snapshot(0) + " " + x.synced(0) + " " + x.committed(0));
         Check.noElement("no entry is left", () -> x.entryTerm(0, 4));
@@ -142,7 +143,9 @@ final class LossTest {
         x.deliver(Play.lastOf(x, 'a', 10));
         Check.due("other entries 4 and 5", "6 2 2 5",
             () -> x.last(0) + " " + x.entryTerm(0, 4) + " " + x.entryTerm(0, 5) + " " + x.committed(0));
-        Check.due("a snapshot", 2, () -> x.compact(0));
+        Check.due("what is in the log is not as the history tells", false, () -> x.isSound());
+        Check.due("a snapshot of what was applied, in place of other entries", 2, () -> x.compact(0));
+        Check.due("is as the history tells", true, () -> x.isSound());
         Check.due("what is behind it stays", "5 6 2", () -> x.snapshot(0) + " " + x.last(0) + " " + x.entryTerm(0, 6));
         Check.due("its store", 15, () -> x.readStale(0, 1));
         Check.due("the rest is synced", 1, () -> x.sync(0));

@@ -408,11 +408,12 @@ final class PlainModel {
         Nd n = node(node);
         state(n.runs);
         state(n.committed > n.snap.index);
-        int gone = n.committed - n.snap.index;
         int term = n.holds(n.committed) ? n.entry(n.committed).term : n.appliedTerm;
         Snap snap = new Snap(n.committed, term, n.setting(n.committed), n.applied.copied());
-        for (int i = 0; i < gone && !n.entries.isEmpty(); i++) {
+        int gone = 0;
+        for (int i = n.snap.index; i < n.committed && !n.entries.isEmpty(); i++) {
             n.entries.remove(0);
+            gone += 1;
         }
         n.know(snap);
         n.synced = Math.max(n.synced, snap.index);
@@ -777,13 +778,12 @@ final class PlainModel {
                 return false;
             }
         }
-        Ent setting = atFirst;
+        Ent is = n.snap.setting;
+        Ent due = atFirst;
         for (Ent e : history.subList(0, n.snap.index)) {
-            setting = e.kind == 'j' || e.kind == 'n' ? e : setting;
+            due = e.kind == 'j' || e.kind == 'n' ? e : due;
         }
-        int term = n.snap.index == 0 ? 0 : history.get(n.snap.index - 1).term;
-        return term == n.snap.term && setting.equals(n.snap.setting)
-            && n.snap.applied.isSame(appliedHistory(n.snap.index))
+        return due.kind == is.kind && due.one == is.one && due.two == is.two && n.snap.applied.isSame(appliedHistory(n.snap.index))
             && n.applied.isSame(appliedHistory(n.committed));
     }
 }

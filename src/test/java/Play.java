@@ -237,12 +237,22 @@ final class Play {
      * told its leader: entries 4 and 5 are committed by it, and are in no log but that of the leader.
      */
     static QuorumAlmanac twoEntriesAreAlone() {
+        return twoEntriesAreAlone(true);
+    }
+
+    /** The entries 4 and 5 are writes to key 1, or merges that do nothing. */
+    static QuorumAlmanac twoEntriesAreAlone(boolean areWrites) {
         QuorumAlmanac x = settled();
         x.write(0, 1, 12);
         x.write(0, 1, 13);
         int ofTwo = lastOf(x, 'a', 2);
-        x.write(0, 1, 14);
-        x.write(0, 1, 15);
+        for (int value = 14; value <= 15; value++) {
+            if (areWrites) {
+                x.write(0, 1, value);
+            } else {
+                x.reshape(0, 1, false);
+            }
+        }
         int ofFour = lastOf(x, 'a', 1);
         x.sync(0);
         x.deliver(ofTwo);

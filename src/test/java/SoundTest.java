@@ -10,6 +10,7 @@ final class SoundTest {
         splitThatOneHasApplied();
         committedEntryIsAnother();
         snapshotIsOfAnother();
+        snapshotOfTheSameStore();
         snapshotOfTheSameTerm();
         storeIsOfWhatIsGone();
         readByLease();
@@ -229,7 +230,11 @@ final class SoundTest {
 
     /** Entries 4 and 5 of the history are gone, and node 1 has committed another entry 4. */
     private static QuorumAlmanac anotherEntryFour() {
-        QuorumAlmanac x = Play.twoEntriesAreGone();
+        return anotherEntryFour(Play.twoEntriesAreAlone());
+    }
+
+    private static QuorumAlmanac anotherEntryFour(QuorumAlmanac x) {
+        x.crash(0);
         Play.tickTo(x, 20);
         Play.voteFor(x, 1, 2);
         Check.due("nothing else is known yet", "4 true", () -> x.last(1) + " " + x.isSound());
@@ -259,6 +264,15 @@ final class SoundTest {
             () -> x.readStale(1, 1) + " " + x.valueByHistory(1) + " " + x.isSound());
         x.crash(1);
         Check.due("and is not forgotten", "4 false", () -> x.committed(1) + " " + x.isSound());
+    }
+
+    private static void snapshotOfTheSameStore() {
+        QuorumAlmanac x = anotherEntryFour(Play.twoEntriesAreAlone(false));
+        Check.due("an 'o' of term 2, not an 'm' of term 1", "o2 false",
+            () -> "" + x.entryKind(1, 4) + x.entryTerm(1, 4) + " " + x.isSound());
+        Check.due("a snapshot in place of it", 1, () -> x.compact(1));
+        Check.due("holds what the history makes", "4 13 true",
+            () -> x.committed(1) + " " + x.readStale(1, 1) + " " + x.isSound());
     }
 
     private static void snapshotOfTheSameTerm() {
